@@ -937,11 +937,6 @@ public final class LuckyTicket {
                 }
             }
         }
-
-        /** The byte at a place, NONE at the end and beyond. */
-        int byteAt(int place) {
-            return place >= 0 && place < size && place < MOST ? bytes[place] & 255 : NONE;
-        }
     }
 
     /**
@@ -953,20 +948,16 @@ public final class LuckyTicket {
         private static final long EVERY_BYTE = 0x0101010101010101L;
         private static final long LOWEST_BITS = 0x1111111111111111L;
 
-        static int shiftOf(int length, int place) {
-            return 4 * (length - 1 - place);
-        }
-
         static long maskAt(int length, int place) {
-            return 15L << shiftOf(length, place);
+            return 15L << 4 * (length - 1 - place);
         }
 
         static long figureTold(int length, int place, long figure) {
-            return (figure & 15L) << shiftOf(length, place);
+            return (figure & 15L) << 4 * (length - 1 - place);
         }
 
         static int figureAt(long face, int length, int place) {
-            return (int) (face >>> shiftOf(length, place)) & 15;
+            return (int) (face >>> 4 * (length - 1 - place)) & 15;
         }
 
         static long firstHalf(int length) {
@@ -1009,27 +1000,32 @@ public final class LuckyTicket {
         /** How often each figure stands there, four bits a figure: twelve places fit into that. */
         static long countsOf(long face, int length) {
             long counts = 0;
-            for (int place = 0; place < length; place++) {
-                counts += 1L << 4 * figureAt(face, length, place);
+            long left = face;
+            for (int i = 0; i < length; i++) {
+                counts += 1L << 4 * (int) (left & 15);
+                left >>>= 4;
             }
             return counts;
         }
 
         static int kindsOf(long face, int length) {
             int seen = 0;
-            for (int place = 0; place < length; place++) {
-                seen |= 1 << figureAt(face, length, place);
+            long left = face;
+            for (int i = 0; i < length; i++) {
+                seen |= 1 << (int) (left & 15);
+                left >>>= 4;
             }
             return Integer.bitCount(seen);
         }
 
         static boolean isMirror(long face, int length) {
-            for (int place = 0; place < length / 2; place++) {
-                if (figureAt(face, length, place) != figureAt(face, length, length - 1 - place)) {
-                    return false;
-                }
+            long turned = 0;
+            long left = face;
+            for (int i = 0; i < length; i++) {
+                turned = turned << 4 | left & 15;
+                left >>>= 4;
             }
-            return true;
+            return turned == face;
         }
     }
 
@@ -1165,7 +1161,7 @@ public final class LuckyTicket {
 
         private static final int MOST_NESTED = 6;
         private static final int MOST_JOINS = 24;
-        private static final int TOO_GREAT = 100000;
+        private static final int TOO_GREAT = 1000;
 
         private final Tape tape;
         private final Script script;
@@ -1192,7 +1188,9 @@ public final class LuckyTicket {
                 if (script.lines == 0) {
                     readMeasures();
                 } else {
-                    readLawLine();
+                    passLawWord();
+                    readLaw(0);
+                    script.closeLaw();
                 }
                 passSign(';');
                 script.lines++;
@@ -1215,14 +1213,12 @@ public final class LuckyTicket {
             return base;
         }
 
-        private void readLawLine() {
+        private void passLawWord() {
             if (isWord("law") && script.laws == MOST_LAWS) {
                 refuse(TOO_MANY);
             }
             passWord("law");
             joins = 0;
-            readLaw(0);
-            script.closeLaw();
         }
 
         private void readLaw(int depth) {
@@ -1253,28 +1249,22 @@ public final class LuckyTicket {
         }
 
         private void readKind(int depth) {
+            int length = script.length;
+            boolean nests = isSign('(') || isWord("not");
             if (fault != 0) {
                 return;
             }
-            boolean opens = isSign('(');
-            if (!opens && !isWord("not")) {
-                readPlainKind();
-            } else if (depth >= MOST_NESTED) {
+            if (nests && depth >= MOST_NESTED) {
                 refuse(TOO_MANY);
-            } else if (opens) {
+            } else if (isSign('(')) {
                 advance();
                 readLaw(depth + 1);
                 passSign(')');
-            } else {
+            } else if (isWord("not")) {
                 advance();
                 readKind(depth + 1);
                 script.add(Script.NOT, 0, 0);
-            }
-        }
-
-        private void readPlainKind() {
-            int length = script.length;
-            if (isWord("half")) {
+            } else if (isWord("half")) {
                 addPlain(Script.LIKE, Figures.firstHalf(length), Figures.lastHalf(length));
             } else if (isWord("odd")) {
                 addPlain(Script.LIKE, Figures.everySecond(length, 0), Figures.everySecond(length, 1));
@@ -1293,7 +1283,10 @@ public final class LuckyTicket {
                 advance();
                 script.add(Script.BY, passNumber(0, script.laws - 1), 0);
             } else if (isWord("places")) {
-                readPlaces();
+                advance();
+                long one = readSide();
+                passWord("like");
+                script.add(Script.LIKE, one, readSide());
             } else {
                 refuse(CANNOT_STAND);
             }
@@ -1310,14 +1303,6 @@ public final class LuckyTicket {
             passWord("of");
             int divisor = passNumber(rest + 1, 20);
             script.add(Script.REST, rest, divisor);
-        }
-
-        private void readPlaces() {
-            advance();
-            long one = readSide();
-            passWord("like");
-            long other = readSide();
-            script.add(Script.LIKE, one, other);
         }
 
         /** One number at least; a row of more than length ones holds one twice and is refused. */
@@ -1384,51 +1369,41 @@ public final class LuckyTicket {
                 return false;
             }
             for (int i = 0; i < word.length(); i++) {
-                if (tape.byteAt(start + i) != word.charAt(i)) {
+                if (tape.bytes[start + i] != word.charAt(i)) {
                     return false;
                 }
             }
             return true;
         }
 
+        /** Goes to the next token: behind blanks, the longest that begins there. */
         private void advance() {
-            start = stop;
-            while (start < tape.size && isBlank(tape.byteAt(start))) {
-                start++;
+            byte[] bytes = tape.bytes;
+            int size = tape.size;
+            while (stop < size && (bytes[stop] == ' ' || bytes[stop] == '\n')) {
+                stop++;
             }
-            stop = start;
+            start = stop;
             value = 0;
-            int head = tape.byteAt(start);
-            if (head == NONE) {
+            if (start >= size) {
                 token = END;
-            } else if (isLetter(head)) {
+            } else if (bytes[start] >= 'a' && bytes[start] <= 'z') {
                 token = WORD;
-                while (stop < tape.size && isLetter(tape.byteAt(stop))) {
+                while (stop < size && bytes[stop] >= 'a' && bytes[stop] <= 'z') {
                     stop++;
                 }
-            } else if (isDigit(head)) {
+            } else if (bytes[start] >= '0' && bytes[start] <= '9') {
                 token = NUMBER;
-                while (stop < tape.size && isDigit(tape.byteAt(stop))) {
-                    value = Math.min(value * 10 + tape.byteAt(stop) - '0', TOO_GREAT);
+                while (stop < size && bytes[stop] >= '0' && bytes[stop] <= '9') {
+                    // what is too great stays so, however many digits follow
+                    value = value > TOO_GREAT ? value : value * 10 + bytes[stop] - '0';
                     stop++;
                 }
             } else {
-                token = head == ';' || head == '(' || head == ')' ? SIGN : NO_TOKEN;
-                value = head;
+                value = bytes[start];
+                token = value == ';' || value == '(' || value == ')' ? SIGN : NO_TOKEN;
                 stop++;
             }
-        }
-
-        private static boolean isBlank(int sign) {
-            return sign == 32 || sign == 10;
-        }
-
-        private static boolean isLetter(int sign) {
-            return sign >= 'a' && sign <= 'z';
-        }
-
-        private static boolean isDigit(int sign) {
-            return sign >= '0' && sign <= '9';
         }
     }
 
@@ -1679,11 +1654,12 @@ public final class LuckyTicket {
         private int spreadAround(Roll roll, int law, int ticket, int before) {
             int size = before;
             int base = roll.base;
+            int lines = roll.lineCount();
             int weight = 1;
             for (int place = 0; place < roll.length && weight > 0 && base > 1; place++) {
                 int above = ticket / weight / base;
                 int below = ticket % weight;
-                int line = place * roll.lineCount() + above * weight + below;
+                int line = place * lines + above * weight + below;
                 if (line >= 0 && line < gone.length && gone[line] == 0) {
                     gone[line] = 1;
                     size = spreadAlong(roll, law, ticket, above * base * weight + below, weight, size);
