@@ -77,6 +77,8 @@ public final class FaultsTest {
         bad(HEAD + "law", 1, 24);
         bad(HEAD + "law half", 1, 29);
         bad(HEAD + "law halfodd;", 1, 25);
+        bad(HEAD + "law halfz;", 1, 25);
+        bad(HEAD + "law zhalf;", 1, 25);
         bad(HEAD + "law half half;", 1, 30);
         bad(HEAD + "law half);", 1, 29);
         bad(HEAD + "law (half;", 1, 30);

@@ -143,6 +143,7 @@ public final class PromisesTest {
         due("11: no LAW", x.rank(7, 0), -2);
         due("12", x.next(0, 0), 10);
         due("12", x.next(0, 10), 12);
+        due("12: at once", x.next(4, 0), 1);
         due("12: not round", x.next(0, 80), -1);
         due("12: none is", x.next(3, 0), -1);
         due("12: no TICKET", x.next(0, 81), -2);
@@ -178,6 +179,12 @@ public final class PromisesTest {
         due("16: round", x.waits(0, 80, 1), 1);
         due("16: round to itself", x.waits(0, 0, 81), 1);
         due("16: never", x.waits(0, 1, 81), -1);
+        LuckyTicket alone = Check.rolled("roll length 3 base 10;law sum 27;law not sum 0 and not sum 27;law not sum 0;");
+        due("16: as many as TICKETS", alone.waits(0, 999, 1), 1000);
+        due("18: the last STEP", alone.steps(0, 0, 2, 1), 999);
+        due("18: the last STEP", alone.steps(1, 0, 2, 0), 999);
+        due("18: by none", alone.steps(2, 1, 2, 0), -1);
+        due("18: none but beyond the last", alone.steps(2, 0, 2, 0), -1);
         due("16: a step of more than all", x.waits(0, 0, 91), 1);
         due("16: no STEP", x.waits(0, 0, 0), -2);
         due("16: no STEP", x.waits(0, 0, 10000), -2);
@@ -453,6 +460,7 @@ public final class PromisesTest {
         due("40: both", x.between(0, 10, 12), 2);
         due("40: one", x.between(0, 10, 10), 1);
         due("40: all", x.between(0, 0, 80), 19);
+        due("40: one of all", x.between(4, 0, 0), 1);
         due("40: turned", x.between(0, 5, 4), -2);
         due("40: no TICKET", x.between(0, 0, 81), -2);
         due("40: no TICKET", x.between(0, -1, 0), -2);
@@ -473,6 +481,7 @@ public final class PromisesTest {
         due("42: fewest", y.window(0, 2, 2), 0);
         due("42: fewest", y.window(0, 2, 3), 1);
         due("42: one", y.window(0, 1, 3), 1);
+        due("42: the last", y.window(0, 3, 1), 5);
         due("42: all", y.window(0, 8, 0), 5);
         due("42: all", y.window(0, 8, 2), 5);
         due("42: all", y.window(0, 8, 3), 0);
@@ -490,6 +499,7 @@ public final class PromisesTest {
         due("43", x.have(0, 4), 9);
         due("43", x.have(0, 2), 4);
         due("43", x.have(0, 1), 0);
+        due("43", x.have(0, 0), 1);
         due("43: a great sum", x.have(0, GREATEST), 0);
         due("43: no sum", x.have(0, -1), -2);
         due("43: no LAW", x.have(7, 0), -2);
