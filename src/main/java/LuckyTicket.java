@@ -72,10 +72,10 @@ public final class LuckyTicket {
 
     public int roll() {
         reader.readTape();
-        tape.size = 0;
         if (reader.fault != 0) {
             return FAULTY;
         }
+        tape.size = 0;
         current.buildFrom(script);
         return current.lines;
     }

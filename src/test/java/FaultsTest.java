@@ -167,6 +167,14 @@ public final class FaultsTest {
         CHECK.due("LINES stay", x.count(4), 2);
         CHECK.due("luck stays", x.laws(1), 0);
         CHECK.due("luck stays", x.laws(4), 1);
+        CHECK.due("the TAPE stays", x.count(5), 38);
+        CHECK.due("the same once more", x.roll(), -4);
+        CHECK.due("the same once more", x.fault(1), 36);
+        CHECK.due("cut at the fault", x.end(x.fault(1)), 36);
+        Check.feed(x, "0;");
+        CHECK.due("and told anew", x.roll(), 3);
+        CHECK.due("and told anew", x.count(2), 8);
+        CHECK.due("the tape is empty then", x.count(5), 0);
         Check.feed(x, "roll length 1 base 2;");
         CHECK.due("roll in place of another", x.roll(), 1);
         CHECK.due("no fault", x.fault(0), 0);

@@ -280,11 +280,11 @@ final class Oracle {
 
     int roll() {
         String text = tape.toString();
-        tape.setLength(0);
         try {
             Told told = new Parser(text).parse();
             fill(told);
             roll = told;
+            tape.setLength(0);
             fault = 0;
             place = -1;
             return roll.lines;
