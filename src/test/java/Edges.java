@@ -24,7 +24,7 @@ final class Edges {
     private static final Pattern REFUSALS = Pattern.compile("-[2-8]\\b|\\bNONE\\b");
 
     private final Check check = new Check();
-    /** By "Promise 1" .. "Promise 62" and "Terms I" .. "Terms VII". */
+    /** By "Promise 1" .. "Promise 62", "Terms I" .. "Terms VII" and "What it is". */
     private final Map<String, String> texts = new HashMap<>();
     private final Map<String, List<String>> quotes = new HashMap<>();
     private final Map<String, Set<Long>> answers = new HashMap<>();
@@ -35,6 +35,7 @@ final class Edges {
     Edges() throws IOException {
         String document = Files.readString(Path.of("../shared/DOC.md"));
         split(document, "## (Promise \\d+): .*", "");
+        split(document.replaceAll("(?s)## The public face.*", ""), "## (What it is)", "");
         split(document.replaceAll("(?s).*## Terms", "").replaceAll("(?s)## Promise 1:.*", ""), "([IV]+)\\.(?= )", "Terms ");
         check.due("promises of the document", texts.keySet().stream().filter(k -> k.startsWith("P")).count(), PROMISES);
         check.due("terms of the document", texts.keySet().stream().filter(k -> k.startsWith("T")).count(), 7);
@@ -61,6 +62,10 @@ final class Edges {
 
     void term(String n, String sentence) {
         quote("Terms " + n, sentence);
+    }
+
+    void opening(String sentence) {
+        quote("What it is", sentence);
     }
 
     private void quote(String where, String sentence) {

@@ -163,7 +163,15 @@ final class EdgesOfLuck {
         due("all", x.mend(4, 7), 3);
         LuckyTicket twelve = Check.rolled("roll length 12 base 2;law sum 12;");
         due("all of twelve", twelve.mend(0, 0), 12);
-        due("by any other FIGURE at once", Check.rolled("roll length 1 base 16;law sum 15;").mend(0, 0), 1);
+        int[] figures = {1, 2, 3, 4, 7, 8, 10, 12, 15};
+        StringBuilder text = new StringBuilder("roll length 3 base 16;");
+        for (int figure : figures) {
+            text.append("law sum ").append(figure).append(" and places 0 1 like 0;");
+        }
+        LuckyTicket sixteen = Check.rolled(text.toString());
+        for (int law = 0; law < figures.length; law++) {
+            due("000 to 00" + figures[law] + " at once", sixteen.mend(law, 0), 1);
+        }
         edges.promise(29, "NONE: none is LUCKY");
         due("of none", x.mend(1, 0), -1);
         edges.promise(29, "-2: there are none such");

@@ -207,10 +207,12 @@ final class EdgesOfStretches {
         int[] ones = {3, 3, 1};
         int[] others = {3, 0, -1};
         int[] alone = {1, 1, 7};
+        int[] noughts = {1, 1, 0};
         for (int what = 0; what <= 2; what++) {
             due("001 010 100", x.same(0, 4, what), ones[what]);
             due("011 101 110", x.same(0, 3, what), others[what]);
             due("111", x.same(3, 7, what), alone[what]);
+            due("000", x.same(4, 0, what), noughts[what]);
             due("of none", x.same(1, 1, what), others[what]);
         }
         due("itself is not the first", x.same(0, 4, 2), 1);
@@ -218,6 +220,10 @@ final class EdgesOfStretches {
         due("six and six", twelve.same(0, 63, 0), 924);
         due("six and six", twelve.same(0, 63, 1), 20);
         due("twelve", twelve.same(0, 4095, 0), 1);
+        // 00333 and 11124 have like sums, too
+        LuckyTicket five = Check.rolled("roll length 5 base 7;law half;");
+        due("00333", five.same(0, 171, 0), 10);
+        due("11124", five.same(0, 2811, 0), 20);
         LuckyTicket most = Check.rolled("roll length 3 base 16;law unlike;");
         due("FED", most.same(0, 0xFED, 0), 6);
         due("FED", most.same(0, 0xFED, 2), 0xDEF);
@@ -245,6 +251,8 @@ final class EdgesOfStretches {
         due("there is none", x.walk(0, 1, 2), -1);
         due("the first is not", x.walk(3, 0, 7), -1);
         due("the second is not", x.walk(3, 7, 0), -1);
+        due("the first is not, though beside the second", x.walk(0, 0, 1), -1);
+        due("the second is not, though beside the first", x.walk(0, 1, 0), -1);
         due("neither is", x.walk(3, 0, 0), -1);
         due("of none", x.walk(1, 0, 7), -1);
         edges.promise(47, "-2: there are none such");

@@ -19,6 +19,7 @@ final class EdgesOfTape {
         ends();
         refusedEnds();
         rolls();
+        fullRolls();
         emptyRoll();
         faultStays();
         faults();
@@ -158,10 +159,24 @@ final class EdgesOfTape {
         due("those behind are gone", x.end(31), -1);
         due("those that come next stand there", x.feed(SPACES, SPACES, SPACES, SPACES, SPACES), 50);
         due("roll", x.roll(), 2);
+        cutWithin(x, HEAD + "law sum 18", "10;", 1, 31);
+        cutWithin(x, HEAD + "law hal", "f;", 1, 25);
+        cutWithin(x, HEAD + "law half", ";", 1, 29);
+        cutWithin(x, "roll length 1", "3", 1, 13);
         Check.feed(x, "?????");
         due("none", x.end(0), 0);
         due("TAPE", x.count(5), 0);
         due("roll of none", x.roll(), 0);
+    }
+
+    /** What has been cut off is not read, not even where it would make the last TOKEN longer. */
+    private void cutWithin(LuckyTicket x, String text, String cut, int fault, int place) {
+        Check.feed(x, text + cut);
+        due("end", x.end(text.length()), text.length());
+        due("roll of " + text, x.roll(), -4);
+        due("its FAULT", x.fault(0), fault);
+        due("its place", x.fault(1), place);
+        due("end", x.end(0), 0);
     }
 
     private void refusedEnds() {
@@ -211,6 +226,28 @@ final class EdgesOfTape {
         Check.feed(x, HEAD + "law half;".repeat(9));
         due("as many LINES as may be", x.roll(), 10);
         due("by all", x.laws(0), 511);
+    }
+
+    /** Texts that fill the TAPE, one in place of the other, as often as calls allow. */
+    private void fullRolls() {
+        edges.promise(4, "The TAPE (empty then) is the ROLL (in place of another)");
+        LuckyTicket x = new LuckyTicket();
+        for (int round = 0; round < 7; round++) {
+            String sum = "sum " + (round % 3);
+            // 24 of and, or in each law, as many as may be
+            String law = "law not odd and odd" + " or not odd and odd".repeat(11) + " or " + sum + ";";
+            StringBuilder text = new StringBuilder(HEAD);
+            while (text.length() + law.length() <= 1200) {
+                text.append(law);
+            }
+            int laws = (text.length() - HEAD.length()) / law.length();
+            text.append(" ".repeat(1200 - text.length()));
+            Check.feed(x, text.toString());
+            due("roll", x.roll(), laws + 1);
+            for (int i = 0; i < laws; i++) {
+                due("many(" + i + ")", x.many(i), round % 3 == 1 ? 2 : 1);
+            }
+        }
     }
 
     private void emptyRoll() {
@@ -315,11 +352,19 @@ final class EdgesOfTape {
         x.feed(0x726F6C6C, SPACES, SPACES, SPACES, SPACES);
         due("roll", x.roll(), -4);
         due("the end's", x.fault(1), 1200);
+        x.end(0);
+        Check.feed(x, " ".repeat(1187) + "roll length 1");
+        due("a number to the end", x.roll(), -4);
+        due("the end's", x.fault(1), 1200);
+        x.end(0);
+        Check.feed(x, " ".repeat(1189) + "roll length");
+        due("a word to the end", x.roll(), -4);
+        due("the end's", x.fault(1), 1200);
     }
 
-    /** An object is used for at most 512 calls: the last of them is answered as the first ones are. */
+    /** The last call of them is answered as the first ones are. */
     private void calls() {
-        edges.promise(1, "LuckyTicket()");
+        edges.opening("An object is used for at most 512 calls after it has been made");
         LuckyTicket x = new LuckyTicket();
         int calls = 0;
         for (int round = 0; round < 8; round++) {

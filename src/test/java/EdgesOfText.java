@@ -181,6 +181,13 @@ final class EdgesOfText {
         good(HEAD + "law half;".repeat(8) + "law by 7;", 10);
         badAtLast(HEAD + "law half;".repeat(8) + "law by 8", 2);
         badAtLast(HEAD + "law half;law by 4294967296", 2);
+        LuckyTicket x = Check.rolled(HEAD + "law sum 0;law sum 1;law by 0;law by 1;law not by 0;law by 0 or by 1;"
+                + "law by 5 and by 1;law by 6;law by 7;");
+        int[] many = {1, 2, 1, 2, 3, 3, 2, 2, 2};
+        for (int law = 0; law < many.length; law++) {
+            edges.due("many(" + law + ")", x.many(law), many[law]);
+        }
+        edges.due("by 7", x.alike(8, 1), 1);
     }
 
     private void places() {
@@ -230,6 +237,17 @@ final class EdgesOfText {
             }
         }
         bad("rol l", 1, 0);
+        String all = "roll length 2 base 2;law not half or odd and mirror or unlike or square or sum 0 or rest 0 of 1 or places 0 like 1;law by 0;";
+        good(all, 3);
+        for (int i = 0; i < all.length(); i++) {
+            if (Character.isLetter(all.charAt(i))) {
+                int start = i;
+                while (start > 0 && Character.isLetter(all.charAt(start - 1))) {
+                    start--;
+                }
+                bad(all.substring(0, i) + "z" + all.substring(i + 1), 1, start);
+            }
+        }
         bad(HEAD + "law halfodd;", 1, 25);
         bad(HEAD + "lawhalf;", 1, 21);
         good("roll length2base2;law sum1or rest0of2and places0like1;", 2);
