@@ -86,6 +86,11 @@ final class EdgesOfLongOnes {
     }
 
     private void months() {
+        edges.term("VI", "LUCKY by half");
+        LuckyTicket year = new LuckyTicket();
+        // 19 September is 1909: 1 + 9 is not 0 + 9; 18 September is 1809
+        due("17 September to 18 September", year.days(260), 1);
+        due("18 September to 27 September", year.days(261), 9);
         edges.promise(51, "LUCKY DAYS of a month (1 .. 12)");
         LuckyTicket x = new LuckyTicket();
         int[] want = {2, 3, 4, 3, 3, 3, 3, 3, 3, 2, 3, 4};

@@ -82,6 +82,23 @@ final class EdgesOfOrder {
         due("20", three.lucky(4, 0xAA0), 0);
         due("45", three.lucky(5, 0xFFF), 1);
         due("5", three.lucky(5, 5), 1);
+        joinedKinds();
+    }
+
+    private void joinedKinds() {
+        edges.term("II", "places: the sums of both sides are alike; by N: by LAW N; and, or, not as ever");
+        LuckyTicket x = Check.rolled("roll length 3 base 4;law places 0 like 1 2;law places 0 1 2 like 0 1 2;"
+                + "law by 0 and not by 0;law by 0 or not by 0;law not (by 1 and by 0);law places 1 2 like 0;law places 2 like 2;");
+        // 000 101 110 202 211 220 303 312 321 330
+        due("one side of two PLACES", x.many(0), 10);
+        due("321", x.lucky(0, 57), 1);
+        due("123", x.lucky(0, 27), 0);
+        due("both sides the same", x.many(1), 64);
+        due("so, and not so", x.many(2), 0);
+        due("so, or not so", x.many(3), 64);
+        due("not both", x.many(4), 54);
+        due("the sides turned", x.alike(0, 5), 1);
+        due("a PLACE like itself", x.many(6), 64);
     }
 
     private void figures() {
@@ -349,6 +366,12 @@ final class EdgesOfOrder {
         due("4 by 8", half.chance(0, 1), 2);
         due("8 by 12", half.share(0, 0), 2);
         due("8 by 12", half.share(0, 1), 3);
+        edges.term("IV", "CHANCE of a LAW: LUCKY ones by TICKETS");
+        due("3 by 8", half.chance(1, 0), 3);
+        due("3 by 8", half.chance(1, 1), 8);
+        edges.term("IV", "TICKETS by (twice TICKETS less LUCKY ones)");
+        due("8 by 13", half.share(1, 0), 8);
+        due("8 by 13", half.share(1, 1), 13);
         edges.promise(19, "CHANCE (IV), above (what 0), below (1); of none: 0, 1");
         LuckyTicket x = Check.rolled(EIGHT);
         due("of none", x.chance(1, 0), 0);

@@ -263,6 +263,13 @@ final class EdgesOfStretches {
     }
 
     private void islands() {
+        edges.term("VI", "ISLANDS: LUCKY ones that WALKS hang together");
+        LuckyTicket ring = Check.rolled("roll length 3 base 2;law sum 1 or sum 2;law mirror;");
+        due("a ring of six", ring.islands(0, 0), 1);
+        due("a ring of six", ring.islands(0, 1), 6);
+        due("000 010, 101 111", ring.islands(1, 0), 2);
+        due("000 010, 101 111", ring.islands(1, 1), 2);
+        due("of like ones the first", ring.islands(1, 2), 0);
         edges.promise(48, "what 0: how many, 1: how many TICKETS the greatest has (0: none), 2: the first TICKET of the first such (NONE)");
         LuckyTicket x = Check.rolled(EIGHT);
         int[][] want = {{3, 1, 1}, {0, 0, -1}, {1, 8, 0}, {1, 1, 7}, {1, 1, 0}};
