@@ -7,7 +7,9 @@ import java.nio.file.Files;
 import java.nio.file.Path;
 import java.util.ArrayList;
 import java.util.List;
+import java.util.Map;
 import java.util.Set;
+import java.util.TreeMap;
 import java.util.TreeSet;
 import java.util.regex.Matcher;
 import java.util.regex.Pattern;
@@ -24,6 +26,7 @@ public final class RulesTest {
         words(bare);
         library(bare);
         measures(bare);
+        depths(bare);
         CHECK.finish();
     }
 
@@ -132,5 +135,43 @@ public final class RulesTest {
             }
             CHECK.holds("a line of at most 120 signs: " + (i + 1), lines[i].length() <= 120);
         }
+    }
+
+    /** Which methods each one calls, by their names: those of two classes with one name are taken for one. */
+    private static void depths(String bare) {
+        Map<String, String> bodies = new TreeMap<>();
+        Pattern heads = Pattern.compile("(?m)^( {4}| {8})[a-zA-Z][\\w \\[\\]]* (\\w+)\\([^;{]*\\) \\{");
+        Matcher head = heads.matcher(bare);
+        while (head.find()) {
+            int stop = bare.indexOf("\n" + head.group(1) + "}", head.end());
+            bodies.merge(head.group(2), bare.substring(head.end(), stop), String::concat);
+        }
+        CHECK.holds("11: methods that were found: " + bodies.size(), bodies.size() > 120);
+        Map<String, Set<String>> calls = new TreeMap<>();
+        for (String name : bodies.keySet()) {
+            Matcher called = Pattern.compile("\\b(\\w+)\\(").matcher(bodies.get(name));
+            Set<String> names = calls.computeIfAbsent(name, n -> new TreeSet<>());
+            while (called.find()) {
+                names.add(called.group(1));
+            }
+            names.retainAll(bodies.keySet());
+        }
+        for (String name : calls.keySet()) {
+            int deep = deepest(name, calls, new TreeSet<>());
+            CHECK.holds("11: calls from " + name + " go " + deep + " deep", deep <= 8);
+        }
+    }
+
+    /** A method that is open already is a recursion, and is not gone into once more. */
+    private static int deepest(String name, Map<String, Set<String>> calls, Set<String> open) {
+        int deep = 0;
+        open.add(name);
+        for (String called : calls.get(name)) {
+            if (!open.contains(called)) {
+                deep = Math.max(deep, deepest(called, calls, open));
+            }
+        }
+        open.remove(name);
+        return deep + 1;
     }
 }
